@@ -57,7 +57,7 @@ public final class RunsTest {
         String left = equals < 0 ? row : row.substring(0, equals).trim();
         String due = equals < 0 ? null : row.substring(equals + 1).trim();
         if (left.startsWith("log ")) {
-            check(line, left, log(Integer.parseInt(left.substring(4))), due);
+            check(line, left, log(line, Integer.parseInt(left.substring(4))), due);
             return;
         }
         String[] times = left.split(" x ", 2);
@@ -75,11 +75,15 @@ public final class RunsTest {
         String call = item.substring(space + 1);
         for (int i = 0; i < count; i++) {
             String name = call.substring(0, call.indexOf('('));
-            made++;
-            if (made > MOST_CALLS) {
-                complain(place + ":" + line, "the document says nothing of so many calls");
-            }
+            count(line, 1);
             check(line, call, Face.answer(face, name, numbers(call)), due);
+        }
+    }
+
+    private void count(int line, int calls) {
+        made += calls;
+        if (made > MOST_CALLS) {
+            complain(place + ":" + line, "the document says nothing of so many calls");
         }
     }
 
@@ -90,11 +94,13 @@ public final class RunsTest {
         }
     }
 
-    private String log(int from) {
+    private String log(int line, int from) {
         List<String> entries = new ArrayList<>();
-        for (int k = from; k < face.call("traced"); k++) {
+        long traced = face.call("traced");
+        for (int k = from; k < traced; k++) {
             entries.add(face.call("trace", k, 0) + ":" + face.call("trace", k, 1) + ":" + face.call("trace", k, 2));
         }
+        count(line, 1 + 3 * entries.size());
         return String.join(" ", entries);
     }
 
